@@ -159,6 +159,11 @@ public final class DaysTest {
         x.law(1, 20000, 5);
         DUE.is("hire(6, 3)", x.hire(6, 3), -1);
         DUE.is("hire(6, 2)", x.hire(6, 2), 2);
+        DUE.is("count(8)", x.count(8), 9);
+        x.law(1, 20000, 2);
+        DUE.is("all that the chest has: hire(6, 1)", x.hire(6, 1), 0);
+        DUE.is("an empty chest: hire(6, 1)", x.hire(6, 1), -1);
+        DUE.is("count(8)", x.count(8), 10);
         DUE.is("paperWeek(0)", x.paperWeek(0), -1);
         told(x, 0, 1, 20, 0, 0, 10, 10, -1, 0);
     }

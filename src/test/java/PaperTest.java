@@ -5,6 +5,7 @@ public final class PaperTest {
     public static void main(String[] args) {
         moreThanSixDaysAHand();
         handsOfAllHousesOfTheVillage();
+        noHandsAheadOfTheComing();
         aSubstitutesDaysAreTheWorkers();
         weeksAreApart();
         asKnownNow();
@@ -53,9 +54,25 @@ public final class PaperTest {
         paperIs(x, 0, 52);
         x.house(0, 0, 1);
         paperIs(x, 0, -1);
+        x.work(0, 0, 5, 0);
+        paperIs(x, 0, -1);
         x.go(1);
         x.house(0, 0, 20);
         x.work(0, 0, 24, 0);
+        paperIs(x, 0, -1);
+    }
+
+    private static void noHandsAheadOfTheComing() {
+        DikeHands x = withLaw();
+        x.house(0, 100, 1);
+        x.go(52);
+        x.work(0, 0, 7, 0);
+        x.go(1);
+        x.house(0, 0, 20);
+        x.change(1, 53, 0, 19);
+        paperIs(x, 0, 52);
+        x.work(0, 0, 7, 0);
+        x.change(0, 52, 100, 2);
         paperIs(x, 0, -1);
     }
 
