@@ -118,9 +118,10 @@ final class Edge {
             add(s, x.bank(r, 0, 0), x.bank(r, 2, 0), x.bank(r, 3, 3000));
         }
         add(s, x.bank(0, 1, 0), x.bank(2, 1, 0), x.saved(70, 1500), x.chosen(70, 1500));
+        int week = x.count(0);
         addMiles(s, x);
-        addDaysOfThisWeek(s, x);
         addYears(s, x);
+        addDaysSince(week, s, x);
         for (int what = 0; what <= 8; what++) {
             add(s, x.count(what));
         }
@@ -162,21 +163,19 @@ final class Edge {
         }
     }
 
-    // Without hands, a village is paper by the first day that was counted for it in this week.
-    private static void addDaysOfThisWeek(StringBuilder s, DikeHands x) {
+    // Without hands, a village is paper by the first day that was counted for it since then.
+    private static void addDaysSince(int week, StringBuilder s, DikeHands x) {
         for (int h = 0; h < 5; h++) {
-            x.change(h, x.count(0), 0, 0);
+            x.change(h, week, 0, 0);
         }
         add(s, x.paperWeek(3), x.paperWeek(4));
-        for (int h = 0; h < 5; h++) {
-            x.change(h, x.count(0), 90, 5);
-        }
     }
 
     // What is bought tells a year's coin; what is worked tells whom a substitute of the past bars.
     private static void addYears(StringBuilder s, DikeHands x) {
         for (int i = 0; i < 20; i++) {
-            add(s, x.buy(0, 1), x.work(4, 5, 1, 0), x.go(52), x.bank(2, 0, 0), x.count(5), x.told(0, i + 1, 0));
+            add(s, x.buy(0, 1), x.work(4, 5, 1, 0), x.go(52), x.bank(2, 0, 0), x.count(5), x.told(0, i + 1, 0),
+                x.arrived(3, 10, 100));
         }
     }
 
