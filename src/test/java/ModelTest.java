@@ -6,20 +6,27 @@ import java.util.List;
  * reading of the document that keeps only what was told and works everything out anew at each question.
  */
 public final class ModelTest {
-    private static final int RUNS = 400;
+    private static final int RUNS = 420;
     private static final int CALLS = 512;
+    private static final int KINDS = 21;
+    private static final int[] MOST = new int[4];
     private static final int[] WRONG = {-1, -2, 8, 20, 21, 30, 40, 104, 105, 300, 301, 501, 1040, 3001, 10001, 100000,
         Integer.MIN_VALUE, Integer.MAX_VALUE, Integer.MIN_VALUE + 1, 1 << 30};
     private static final Due DUE = new Due();
     private static long seed;
     private static int slowness;
+    private static int leaning;
+    private static boolean late;
 
     public static void main(String[] args) {
         for (int run = 0; run < RUNS; run++) {
             seed = 77 + run;
             slowness = 1 + next(60);
+            leaning = run % (2 * KINDS);
+            late = run % 5 == 0;
             oneRun(run);
         }
+        limitsWereMet();
         DUE.end();
     }
 
@@ -27,22 +34,37 @@ public final class ModelTest {
         DikeHands x = new DikeHands();
         Model m = new Model();
         for (int i = 0; i < CALLS; i++) {
-            int[] call = i < 12 ? opening(i) : anyCall(m);
+            int[] call = i < (late ? 20 : 12) ? opening(i) : anyCall(m);
             String text = "run " + run + ", call " + i + ": " + java.util.Arrays.toString(call);
             DUE.is(text, ask(x, call), m.answer(call));
         }
+        for (int what = 0; what < MOST.length; what++) {
+            MOST[what] = Math.max(MOST[what], m.count(what));
+        }
     }
 
-    // Houses and a law first, so that something is owed in most runs.
+    // Runs that never come to a limit would say nothing of what is refused there.
+    private static void limitsWereMet() {
+        int[] limits = {1040, 40, 40, 200};
+        for (int what = 0; what < limits.length; what++) {
+            DUE.is("the most that the runs had of count(" + what + ")", MOST[what], limits[what]);
+        }
+    }
+
+    // Houses and a law first, so that something is owed in most runs; late runs then go on to the last year.
     private static int[] opening(int i) {
         if (i == 0) {
             return new int[] {2, next(2), next(10) * 10000 + next(10) * 1000 + next(60), next(101)};
         }
-        return i < 10 ? new int[] {3, next(3), next(501), next(8)} : new int[] {11, 30 + next(60)};
+        if (i < 10) {
+            return new int[] {3, next(3), next(501), next(8)};
+        }
+        return new int[] {11, late ? 95 + next(10) : 30 + next(60)};
     }
 
+    // Half of the runs lean to one kind of call, so that they come to its limit.
     private static int[] anyCall(Model m) {
-        int kind = next(21);
+        int kind = leaning < KINDS && next(3) > 0 ? leaning : next(KINDS);
         int[] call;
         switch (kind) {
             case 0: call = new int[] {kind, next(8), next(100)}; break;
